@@ -325,10 +325,10 @@ public final class Generations {
             return Math.floorMod(base() + n - 1, LAST_NUMBER) + 1;
         }
 
-        /** Takes n of 0, -1, ..: with these the sum below can't wrap around. */
+        /** Takes n of 0, -1, ..: it is looked at before the sum, which could wrap around else. */
         private int countedFromNewest(int n) {
-            int i = rowThen.length - 1 + n;
-            return i >= 0 && i < rowThen.length ? rowThen[i] : NONE;
+            int oldest = 1 - rowThen.length;
+            return n >= oldest && n <= 0 ? rowThen[rowThen.length - 1 + n] : NONE;
         }
     }
 

@@ -1,3 +1,5 @@
+import java.util.function.IntUnaryOperator;
+
 /** Compares answers with those that are due, prints the wrong ones, and ends the test. */
 final class Check {
     /** A call of the face whose answer, or exception, is looked at. */
@@ -6,11 +8,22 @@ final class Check {
     }
 
     private final String test;
+    private String sentence = "";
+    private int sentences;
     private int looked;
+    private int lookedBefore;
     private int wrong;
 
     Check(String test) {
         this.test = test;
+    }
+
+    /** What follows looks at this sentence of the document; a wrong answer is told with it. */
+    void sentence(String words) {
+        endSentence();
+        sentence = words;
+        sentences++;
+        lookedBefore = looked;
     }
 
     void due(String call, int want, int got) {
@@ -32,6 +45,27 @@ final class Check {
         }
     }
 
+    /** The call answers so, and nothing that can be seen of the group is another after it. */
+    void changesNothing(Generations group, String call, int want, Call what) {
+        String before = Picture.of(group);
+        due(call, want, what.answer());
+        unchanged(group, call, before);
+    }
+
+    void refusedChangingNothing(Generations group, String call, Call what) {
+        String before = Picture.of(group);
+        refused(call, what);
+        unchanged(group, call, before);
+    }
+
+    void unchanged(Generations group, String by, String before) {
+        looked++;
+        String after = Picture.of(group);
+        if (!before.equals(after)) {
+            complain(by + " changed\n  " + before + "\n  to\n  " + after);
+        }
+    }
+
     void row(Generations group, int... want) {
         numbers("list", want, group.count(0), group::list);
     }
@@ -42,25 +76,30 @@ final class Check {
 
     void complain(String what) {
         wrong++;
-        System.out.println(test + ": " + what);
+        String about = sentence.isEmpty() ? "" : " [" + sentence + "]";
+        System.out.println(test + about + ": " + what);
     }
 
     void finish() {
-        System.out.println(test + ": " + looked + " looked at, " + wrong + " wrong");
+        endSentence();
+        System.out.println(test + ": " + sentences + " sentences, " + looked + " looked at, " + wrong + " wrong");
         if (wrong != 0) {
             System.exit(1);
         }
     }
 
-    private interface Numbers {
-        int at(int i);
+    /** A sentence that nothing was looked at for is not tested. */
+    private void endSentence() {
+        if (sentences > 0 && looked == lookedBefore) {
+            complain("nothing was looked at");
+        }
     }
 
-    private void numbers(String call, int[] want, int count, Numbers got) {
+    private void numbers(String call, int[] want, int count, IntUnaryOperator got) {
         due("count of " + call, want.length, count);
         for (int i = 0; i < want.length; i++) {
-            due(call + "(" + i + ")", want[i], got.at(i));
+            due(call + "(" + i + ")", want[i], got.applyAsInt(i));
         }
-        due(call + " past its end", Generations.NONE, got.at(want.length));
+        due(call + " past its end", Generations.NONE, got.applyAsInt(want.length));
     }
 }
