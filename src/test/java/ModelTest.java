@@ -1,4 +1,7 @@
-/** Many runs of calls, each answered by the class and by the plain model alike. */
+/**
+ * Many runs of calls, each answered by the class and by the plain model alike. Looks at everything
+ * come on top of a run's 512 calls: the document leaves those free, but they change nothing here.
+ */
 public final class ModelTest {
     private static final int RUNS = 6000;
     private static final int THREW = -1000;
