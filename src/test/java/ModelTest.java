@@ -6,6 +6,7 @@ public final class ModelTest {
     private static final int RUNS = 6000;
     private static final int THREW = -1000;
     private static final int[] BASES = {0, 9990, 4995, 9996, 40};
+    private static final int WHOLE_CIRCLE = 9999;
     private static final Check check = new Check("model");
 
     private static long seed;
@@ -25,19 +26,29 @@ public final class ModelTest {
     }
 
     private static void aRun(int run) {
-        int limit = pick(8) == 0 ? pick(300) - 20 : 1 + pick(5);
+        boolean great = pick(60) == 0;
+        int limit = great ? 250 + pick(8) : pick(8) == 0 ? pick(300) - 20 : 1 + pick(5);
         int scratch = pick(2);
         Generations group = new Generations(limit, scratch);
         PlainModel model = new PlainModel(limit, scratch);
         int base = BASES[pick(BASES.length)];
-        int spread = 3 + pick(12);
-        int calls = pick(4) == 0 ? 512 : 80;
-        for (int i = 0; i < calls; i++) {
+        int spread = great || pick(6) == 0 ? WHOLE_CIRCLE : 3 + pick(12);
+        int calls = great || pick(4) == 0 ? 512 : 80;
+        int filling = great ? 250 : 0;
+        for (int i = 0; i < filling; i++) {
+            int number = 1 + pick(9999);
+            same("run " + run + " call " + i + ": catalogue(" + number + ")",
+                    () -> group.catalogue(number), () -> model.catalogue(number));
+        }
+        for (int i = filling; i < calls; i++) {
             aCall("run " + run + " call " + i + ": ", group, model, base, spread);
         }
     }
 
-    private static int number(int base, int spread) {
+    private static int number(Generations group, int base, int spread) {
+        if (spread == WHOLE_CIRCLE && pick(3) > 0) {
+            return numberUsedBefore(group);
+        }
         if (pick(40) == 0) {
             return pick(3) == 0 ? 0 : pick(10002);
         }
@@ -45,10 +56,20 @@ public final class ModelTest {
         return pick(4) > 0 ? (number > 9999 ? number - 9999 : number) : 1 + pick(spread);
     }
 
+    /** On the whole circle a number that is picked would hardly ever be one used before. */
+    private static int numberUsedBefore(Generations group) {
+        int making = group.count(4);
+        return switch (pick(making == 0 ? 2 : 3)) {
+            case 0 -> group.list(pick(1 + group.count(0)));
+            case 1 -> group.dropped(pick(1 + group.count(5)));
+            default -> group.relative(making, 1 + pick(5));
+        };
+    }
+
     private static void aCall(String at, Generations group, PlainModel model, int base, int spread) {
         int job = pick(30) == 0 ? pick(42) : 1 + pick(group.count(3) + (pick(20) == 0 ? 1 : 0) + 1);
         int n = pick(25) == 0 ? 95 + pick(8) : pick(8) - 2;
-        int number = number(base, spread);
+        int number = number(group, base, spread);
         int i = pick(8) - 1;
         boolean flag = pick(2) == 0;
         switch (pick(22)) {
